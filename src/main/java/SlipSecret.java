@@ -43,8 +43,6 @@ public final class SlipSecret {
     private final State[] past;
     private int pastCount;
     private int pastTop;
-    private final int[] tape;
-    private int tapeLength;
     private final TextReader reader;
     private int refusedMissing;
     private int refusedArgument;
@@ -63,8 +61,7 @@ public final class SlipSecret {
         for (int i = 0; i < MAX_PAST; i++) {
             past[i] = new State();
         }
-        tape = new int[MAX_BYTES];
-        reader = new TextReader(tape);
+        reader = new TextReader();
         reading = new Reading();
         order = new Order();
         trial = new Order();
@@ -77,21 +74,20 @@ public final class SlipSecret {
     // ---- what tells and changes ----
 
     public int feed(int a, int b, int c, int d, int e) {
-        if (tapeLength + FEED_BYTES > MAX_BYTES) {
+        if (reader.tapeLength + FEED_BYTES > MAX_BYTES) {
             return NONE;
         }
-        putOnTape(a);
-        putOnTape(b);
-        putOnTape(c);
-        putOnTape(d);
-        putOnTape(e);
-        return tapeLength;
+        reader.putOnTape(a);
+        reader.putOnTape(b);
+        reader.putOnTape(c);
+        reader.putOnTape(d);
+        reader.putOnTape(e);
+        return reader.tapeLength;
     }
 
     public int text(int n) throws IllegalArgumentException {
-        needBetween(n, 0, tapeLength);
+        needBetween(n, 0, reader.tapeLength);
         int kind = reader.read(n);
-        tapeLength = 0;
         if (kind != 0) {
             return kind - 10;
         }
@@ -199,7 +195,7 @@ public final class SlipSecret {
             case 11:
                 return pastCount;
             case 12:
-                return tapeLength;
+                return reader.tapeLength;
             case 13:
                 return now.listener.count;
             case 14:
@@ -589,15 +585,6 @@ public final class SlipSecret {
     }
 
     // ---- help for the calls ----
-
-    private void putOnTape(int number) {
-        for (int shift = 24; shift >= 0; shift -= 8) {
-            if (tapeLength < MAX_BYTES) {
-                tape[tapeLength] = (number >> shift) & 255;
-                tapeLength++;
-            }
-        }
-    }
 
     private void remember() {
         past[pastTop].copyFrom(now);
@@ -991,6 +978,11 @@ public final class SlipSecret {
             }
             return sum;
         }
+
+        /** Whether some bits, so many, lead from a check to another: they reach as many low places. */
+        static boolean canBecome(int check, int many, int wanted) {
+            return many >= CHECK_BITS || (checkWith(check, 0, many) ^ wanted) >> many == 0;
+        }
     }
 
     /** What is enrolled; the k-th enrolled pair's bits are the k-th of bits and helper. */
@@ -1229,6 +1221,9 @@ public final class SlipSecret {
         }
 
         void put(int front, int back) {
+            if (isAhead(front, back)) {
+                return;
+            }
             int gained = behind[back] | (1 << back);
             for (int i = 0; i < MAX_RINGS; i++) {
                 if (i == front || bitIn(behind[i], front) == 1) {
@@ -1334,12 +1329,13 @@ public final class SlipSecret {
                 return check == kept.check ? 1 : 0;
             }
             int bits = Code.bitsOf(kept.repeat);
-            boolean isLast = block == kept.blocks - 1;
+            int bitsBehind = kept.secretBits() - (block + 1) * bits;
             int many = 0;
             for (int data = 0; data < 1 << bits; data++) {
                 int checkThen = Code.checkWith(check, data, bits);
-                // A wrong check at the end is seen first, as orders are dear.
-                if ((!isLast || checkThen == kept.check) && putBlock(slip, kept, block, data)) {
+                // A check that cannot come out is seen first, as orders are dear.
+                if (Code.canBecome(checkThen, bitsBehind, kept.check)
+                        && putBlock(slip, kept, block, data)) {
                     many += countFrom(slip, kept, block + 1, checkThen);
                 }
             }
@@ -1364,7 +1360,7 @@ public final class SlipSecret {
         }
     }
 
-    /** Reads a text into a draft, up to its first fault. */
+    /** The tape; reads a text on it into a draft, up to its first fault. */
     private static final class TextReader {
         private static final int OUT_OF_PLACE = 1;
         private static final int NO_SUCH_NUMBER = 2;
@@ -1376,19 +1372,26 @@ public final class SlipSecret {
         final Slip draft = new Slip();
         int faultPlace = NONE;
         private int faultKind;
-        private final int[] bytes;
+        private final int[] tape = new int[MAX_BYTES];
+        int tapeLength;
         private int length;
         private int place;
         /** Where the number that was read last begins. */
         private int numberPlace;
 
-        TextReader(int[] tape) {
-            bytes = tape;
+        void putOnTape(int number) {
+            for (int shift = 24; shift >= 0; shift -= 8) {
+                if (tapeLength < MAX_BYTES) {
+                    tape[tapeLength] = (number >> shift) & 255;
+                    tapeLength++;
+                }
+            }
         }
 
-        /** The fault's kind, 0 without. */
+        /** Reads the first n bytes and empties the tape: the fault's kind, 0 without. */
         int read(int n) {
-            length = Math.min(n, bytes.length);
+            length = Math.min(n, tapeLength);
+            tapeLength = 0;
             place = 0;
             faultKind = 0;
             faultPlace = NONE;
@@ -1410,14 +1413,14 @@ public final class SlipSecret {
         }
 
         private void skipBlanks() {
-            while (place < length && bytes[place] == BLANK) {
+            while (place < length && tape[place] == BLANK) {
                 place++;
             }
         }
 
         private void readLine() {
             int start = place;
-            while (place < length && bytes[place] >= 'a' && bytes[place] <= 'z') {
+            while (place < length && tape[place] >= 'a' && tape[place] <= 'z') {
                 place++;
             }
             if (isWord(start, "ring")) {
@@ -1442,7 +1445,7 @@ public final class SlipSecret {
 
         private void readEndOfLine() {
             skipBlanks();
-            if (place < length && bytes[place] == ';') {
+            if (place < length && tape[place] == ';') {
                 place++;
             } else {
                 fail(OUT_OF_PLACE, place);
@@ -1454,7 +1457,7 @@ public final class SlipSecret {
                 return false;
             }
             for (int i = 0; i < word.length(); i++) {
-                if (bytes[start + i] != word.charAt(i)) {
+                if (tape[start + i] != word.charAt(i)) {
                     return false;
                 }
             }
@@ -1506,7 +1509,7 @@ public final class SlipSecret {
         private int readSigned(int least, int most) {
             skipBlanks();
             int start = place;
-            boolean isMinus = place < length && bytes[place] == '-';
+            boolean isMinus = place < length && tape[place] == '-';
             if (isMinus) {
                 place++;
                 skipBlanks();
@@ -1527,9 +1530,9 @@ public final class SlipSecret {
         private int readDigits() {
             int start = place;
             int value = 0;
-            while (place < length && bytes[place] >= '0' && bytes[place] <= '9') {
+            while (place < length && tape[place] >= '0' && tape[place] <= '9') {
                 // Any value above all limits will do for a number of many digits.
-                value = value >= TOO_GREAT ? value : 10 * value + bytes[place] - '0';
+                value = value >= TOO_GREAT ? value : 10 * value + tape[place] - '0';
                 place++;
             }
             if (place == start) {

@@ -168,6 +168,13 @@ public final class PromiseTest {
         Check.due("4: fault of '" + text + "'", place, x.fault());
     }
 
+    /** A text that ends ahead of signs that would do. */
+    private static void cutFault(String whole, int n) {
+        SlipSecret x = new SlipSecret();
+        Check.due("4: " + n + " bytes of '" + whole + "'", -9, first(x, whole, n));
+        Check.due("4: fault of " + n + " bytes of '" + whole + "'", n, x.fault());
+    }
+
     private static void textFaults() {
         fault("ring 1 2;", 1, 8);
         fault("ring 1 2", 1, 8);
@@ -192,6 +199,15 @@ public final class PromiseTest {
         fault("guard;", 1, 5);
         fault("guard -1;", 1, 6);
         fault("hamming;all ;foo", 1, 13);
+        fault("allz;", 1, 0);
+        cutFault("all;", 3);
+        cutFault("guard 7", 6);
+        cutFault("heats 1 -5", 8);
+        cutFault("ring 1 -7", 8);
+        fault(" ".repeat(397) + "all", 1, 400);
+        fault(" ".repeat(395) + "guard", 1, 400);
+        fault(" ".repeat(393) + "guard 5", 1, 400);
+        fault(" ".repeat(393) + "heats -", 1, 400);
         fault("ring 10000 0 0;", 2, 5);
         fault("ring 99999999999999999999 0 0;", 2, 5);
         fault("ring 0 100 0;", 2, 7);
@@ -899,6 +915,45 @@ public final class PromiseTest {
         three.wear(2, 0, 50);
         three.hear(2);
         Check.due("27: what was heard cannot be", 0, three.leak(4));
+        sixteenLeft();
+    }
+
+    /** Sixteen blocks, each secret tried on its own. */
+    private static void sixteenLeft() {
+        SlipSecret x = told(fullText("repeat 1;"));
+        x.enrol(40000);
+        x.turn(3);
+        x.hear(27);
+        int helper = 40000 ^ 65535 ^ 8;
+        int check = checkOf(40000, 16);
+        int left = 0;
+        int knows = 0;
+        for (int secret = 0; secret < 65536; secret++) {
+            if (checkOf(secret, 16) == check) {
+                left += hasOrder(secret ^ helper, 16) ? 1 : 0;
+                // Pair 27 is 6 ahead of 7.
+                knows += hasOrder(secret ^ helper | 1 << 27, 16) ? 1 : 0;
+            }
+        }
+        Check.due("27: sixteen bits, left", left, x.leak(3));
+        Check.due("27: sixteen bits, left to who listens", knows, x.leak(4));
+    }
+
+    /** Whether bits of the first pairs of eight rings, and of pair 27 if it is set, fit an order. */
+    private static boolean hasOrder(int bits, int many) {
+        int gone = 0;
+        for (int round = 0; round < 8; round++) {
+            int beaten = 0;
+            for (int a = 0, p = 0; a < 8; a++) {
+                for (int b = a + 1; b < 8; b++, p++) {
+                    boolean isThere = p < many || p == 27 && bits >> 27 == 1;
+                    int front = (bits >> p & 1) == 1 ? a : b;
+                    beaten |= isThere && (gone >> front & 1) == 0 ? 1 << (a + b - front) : 0;
+                }
+            }
+            gone |= ~beaten & 255;
+        }
+        return gone == 255;
     }
 
     private static int checkOf(int secret, int bits) {
@@ -948,6 +1003,11 @@ public final class PromiseTest {
         Check.due("29: nothing stays", -1, x.ring(2, 3));
         Check.due("29: all heard", 4, x.curve(4, 2));
         Check.due("29: none behind", 0, x.curve(4, 1));
+        SlipSecret slow = told("ring2 0 0;ring3 0 0;ring4 0 0;ring5 0 0;ring0 0 0;ring6 0 0;ring7 0 0;ring1 0 0;"
+                + "ring8 0 0;ring9 0 0;pair3 8;pair2 1;pair9 8;pair0 1;pair4 1;pair2 4;pair7 9;pair6 3;pair7 6;"
+                + "pair6 8;pair7 4;pair5 6;pair5 3;pair0 7;pair9 1;pair5 8;pair4 6;pair3 2;");
+        Check.due("29: one that learns slowly", 16, slow.curve(18, 0));
+        Check.due("29: but all of it", 18, slow.curve(18, 2));
         Check.refused("29: 5", "argument", () -> x.curve(5, 0));
         Check.refused("29: -1", "argument", () -> x.curve(-1, 0));
         Check.refused("29: what", "argument", () -> x.curve(0, 3));
@@ -971,12 +1031,27 @@ public final class PromiseTest {
         x.hear(2);
         Check.due("30: all follow", -1, x.nextPair());
         Check.due("31: none", 0, x.needs());
+        SlipSecret full = told(fullText(""));
+        int next = full.nextPair();
+        int many = 0;
+        while (next >= 0 && many < 99) {
+            Check.due("31: one less each time", full.needs() - 1, needsAfter(full, next));
+            next = full.nextPair();
+            many++;
+        }
+        Check.due("31: none is left", 0, full.needs());
+        Check.due("31: all follow", 28, full.success(0));
         SlipSecret circle = told("ring 3 0 0;ring 2 0 0;ring 1 0 0;pair 0 1;pair 1 2;pair 0 2;");
         circle.hear(0);
         circle.hear(1);
         circle.wear(2, 0, 9);
         circle.hear(2);
         Check.due("30: heard ones are not next, though none follows", -1, circle.nextPair());
+    }
+
+    private static int needsAfter(SlipSecret x, int pair) {
+        x.hear(pair);
+        return x.needs();
     }
 
     private static void print() {
