@@ -1221,7 +1221,7 @@ public final class SlipSecret {
         }
 
         void put(int front, int back) {
-            if (isAhead(front, back)) {
+            if (bitIn(behind[front], back) == 1) {
                 return;
             }
             int gained = behind[back] | (1 << back);
