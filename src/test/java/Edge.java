@@ -28,6 +28,10 @@ final class Edge {
         long answer(SlipSecret x);
     }
 
+    interface AskByNumber {
+        long answer(int i);
+    }
+
     private static final Map<Integer, List<String>> SENTENCES = new TreeMap<>();
     private static String label = "";
 
@@ -48,14 +52,10 @@ final class Edge {
     }
 
     /** Answers of one call for each of the numbers 0, 1 .. */
-    static void row(String what, long[] want, Ask1 ask) {
+    static void row(String what, long[] want, AskByNumber ask) {
         for (int i = 0; i < want.length; i++) {
             due(what + " " + i, want[i], ask.answer(i));
         }
-    }
-
-    interface Ask1 {
-        long answer(int i);
     }
 
     /** A call that is refused, for this reason alone, and leaves all as it was. */

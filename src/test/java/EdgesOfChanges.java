@@ -140,9 +140,16 @@ final class EdgesOfChanges {
         SlipSecret again = Texts.rich();
         Edge.due("again", 1, again.enrol(0));
         Edge.due("the new secret", 0, again.told(16));
+        Edge.row("the new helper", new long[] {1, 1, 1, -1}, pair -> again.pair(pair, 9));
         Edge.due("the helper is as at first", 1, again.safe(20, 1));
         again.undo();
         Edge.due("the old secret", 1, again.told(16));
+        SlipSecret worn = Texts.four();
+        worn.enrol(1);
+        worn.wear(0, 0, 0);
+        worn.enrol(1);
+        Edge.row("bits as they are at the new one", new long[] {0, 1, 0, -1}, pair -> worn.pair(pair, 10));
+        Edge.row("helper, too", new long[] {1, 0, 1, -1}, pair -> worn.pair(pair, 9));
     }
 
     /** Enrolled, and then without blocks. */
@@ -176,13 +183,13 @@ final class EdgesOfChanges {
         Edge.due("as it is now", 1, x.pair(3, 6));
         Edge.due("two still", 2, x.told(13));
         Edge.due("four can be taken back", 4, x.told(11));
-        // Rings 1 and 2 are faster than 0; heard 1 2, 0 1, and 1 2 again: 2 ahead of 1 is learnt first.
+        // Rings 1 and 2 are faster than 0: who learns 0 2 first guesses 0 1 right then, and 1 stays 0.
         SlipSecret y = Check.told("ring 1 0 0;ring 2 0 0;ring 3 0 0;pair 0 1;pair 1 2;pair 0 2;");
-        y.hear(1);
+        y.hear(2);
         y.hear(0);
-        y.hear(1);
-        Edge.due("both wrong, in the old places", 2, y.train(1));
-        Edge.row("weights", new long[] {-1, 0, 1}, ring -> y.ring(ring, 3));
+        y.hear(2);
+        Edge.due("one wrong", 1, y.train(1));
+        Edge.row("weights, in the old places", new long[] {-1, 0, 1}, ring -> y.ring(ring, 3));
         SlipSecret z = Check.told(Texts.eight(28, ""));
         for (int i = 0; i < 28; i++) {
             Edge.due("pair " + i, 1, z.hear(i));
@@ -355,6 +362,37 @@ final class EdgesOfChanges {
         Edge.due("that is no refusal", 0, x.status(0) + x.status(1) + x.status(2));
     }
 
+    /** All 28 pairs enrolled and heard, the last one first. */
+    private static SlipSecret most() {
+        SlipSecret x = Check.told(Texts.eight(28, "hamming;"));
+        x.wear(6, 0, 5);
+        for (int i = 27; i >= 0; i--) x.hear(i);
+        x.enrol(42);
+        return x;
+    }
+
+    private static void undoOfTheMost() {
+        SlipSecret x = most();
+        x.wear(0, 0, 1);
+        x.hear(0);
+        x.enrol(65535);
+        x.turn(27);
+        for (int i = 0; i < 4; i++) x.undo();
+        SlipSecret y = most();
+        for (int pair = 0; pair < 28; pair++) {
+            Edge.due("helper of " + pair, y.pair(pair, 9), x.pair(pair, 9));
+            Edge.due("enrolled bit of " + pair, y.pair(pair, 10), x.pair(pair, 10));
+            Edge.due("heard bit of " + pair, y.pair(pair, 6), x.pair(pair, 6));
+        }
+        Edge.due("the secret", 42, x.recover(20, 0, 0));
+        Edge.due("the helper is as at first", 4, x.safe(20, 1));
+        x.train(1);
+        y.train(1);
+        for (int ring = 0; ring < 8; ring++) {
+            Edge.due("weights, by the order heard", y.ring(ring, 3), x.ring(ring, 3));
+        }
+    }
+
     private static void undoBranches() {
         SlipSecret x = new SlipSecret();
         x.set(0, 1);
@@ -376,6 +414,7 @@ final class EdgesOfChanges {
         Edge.due("twelve", 12, full.told(11));
         Edge.due("back", 11, full.undo());
         Edge.due("guard", 501, full.told(6));
+        undoOfTheMost();
         SlipSecret refused = Texts.rich();
         Check.outcome(() -> refused.set(0, 1000));
         Check.outcome(() -> refused.hear(4));

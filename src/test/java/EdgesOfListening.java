@@ -145,6 +145,12 @@ final class EdgesOfListening {
         Edge.due("what follows is not next", 2, x.nextPair());
         x.hear(2);
         Edge.due("none is left", -1, x.nextPair());
+        // The same with a pair of two other rings ahead: it would tell three, be it 0 or 1.
+        SlipSecret apart = Check.told("ring 4 0 0;ring 3 0 0;ring 2 0 0;ring 1 0 0;ring 0 0 0;ring 0 0 0;"
+                + "pair 4 5;pair 2 3;pair 0 1;pair 1 2;pair 0 2;pair 0 3;");
+        apart.hear(1);
+        apart.hear(2);
+        Edge.due("four of six, be it 0 or 1", 4, apart.nextPair());
         SlipSecret both = circle();
         Edge.due("order tells both, so it does not follow", 4, both.nextPair());
         both.hear(4);

@@ -138,6 +138,10 @@ final class EdgesOfSecrets {
             x.turn(i);
         }
         Edge.row("none is", new long[] {3, 0, 0}, what -> x.safe(20, what));
+        SlipSecret last = enrolled(Texts.eight(28, "hamming;"), 0);
+        last.turn(26);
+        last.turn(27);
+        Edge.row("the last two places of the last block", new long[] {0, 3, 3}, what -> last.safe(20, what));
         SlipSecret hot = enrolled("ring 100 0 0;ring 95 10 0;pair 0 1;repeat 1;", 1);
         Edge.row("at 25, alike", new long[] {0, 1, -1}, what -> hot.safe(25, what));
         Edge.row("at 26", new long[] {1, 0, 0}, what -> hot.safe(26, what));
@@ -181,6 +185,8 @@ final class EdgesOfSecrets {
         range("from the coldest", -40, 125, "ring 160 0 0;ring 100 -10 0;pair 0 1;");
         range("to the hottest but one", -40, 124, "ring 204 0 0;ring 100 10 0;pair 0 1;");
         range("to the hottest", -40, 125, "ring 205 0 0;ring 100 10 0;pair 0 1;");
+        range("to 20", -40, 20, "ring 100 0 0;ring 100 10 0;pair 0 1;");
+        range("from 20 on", 20, 125, "ring 100 0 0;ring 100 -10 0;pair 0 1;");
         range("20 alone", 20, 20, "ring 100 10 0;ring 100 0 0;ring 100 10 0;pair 0 1;pair 1 2;");
         range("not at 20", 999, 999, "ring 100 0 1;ring 100 0 0;pair 0 1;");
         // Safe at 25 and 26 again, but not next to 20: see the gap at 24.
@@ -214,10 +220,15 @@ final class EdgesOfSecrets {
                 Edge.due("margin " + d[0] + ", with it", 1, x.told(4));
             }
         }
-        Edge.due("a margin below 0", -1, Check.told("ring 5 0 9;ring 0 0 0;pair 0 1;repeat 1;").guardFor(1));
+        for (int noise = 5; noise <= 8; noise++) {
+            SlipSecret x = Check.told("ring 5 0 " + noise + ";ring 0 0 0;pair 0 1;repeat 1;");
+            Edge.due("a margin of " + (5 - noise), -1, x.guardFor(1));
+        }
+        SlipSecret near = Check.told("ring 72 0 0;ring 2 0 0;ring 3 0 0;ring 1 0 0;pair 0 1;pair 0 2;pair 0 3;repeat 1;");
+        Edge.row("margins 70, 69, 71", new long[] {70, 69, 68}, i -> near.guardFor(1 + i));
         Edge.due("no pairs", -1, new SlipSecret().guardFor(1));
         Edge.due("no pairs, 28", -1, new SlipSecret().guardFor(28));
-        // Margins of 28 pairs: seven 10, six 20, five 30 .. one 70.
+        // Margins of 28 pairs: seven of 10, six of 20 .. one of 70.
         SlipSecret x = Check.told(Texts.eight(28, "repeat 1;"));
         int[][] ones = {{1, 69}, {2, 59}, {3, 59}, {4, 49}, {6, 49}, {7, 39}, {15, 29}, {16, 19}, {17, -1}, {28, -1}};
         for (int[] d : ones) {
@@ -288,6 +299,36 @@ final class EdgesOfSecrets {
         }
         Edge.due("all heard", 1, most.leak(4));
         leakByOrder();
+        leakOfSixteen();
+    }
+
+    /** Sixteen blocks, as many as there can be: each secret is tried. */
+    private static void leakOfSixteen() {
+        SlipSecret x = enrolled(Texts.eight(28, "repeat 1;"), 65535);
+        x.hear(27);
+        x.hear(15);
+        int check = x.told(17);
+        int left = 0;
+        int known = 0;
+        for (int secret = 0; secret < 65536; secret++) {
+            if (checkOf(secret) == check) {
+                // All bits are 1, as are the secret's: the helper is 0.
+                left += Texts.hasOrder(secret, 65535) ? 1 : 0;
+                known += (secret >> 15 & 1) == 1 && Texts.hasOrder(secret | 1 << 27, 65535 | 1 << 27) ? 1 : 0;
+            }
+        }
+        Edge.due("sixteen bits, left", left, x.leak(3));
+        Edge.due("sixteen bits, left to who listens", known, x.leak(4));
+        Edge.due("not all", 1, known < left && left < 4096 ? 1 : 0);
+    }
+
+    private static int checkOf(int secret) {
+        int sum = 0;
+        for (int i = 0; i < 16; i++) {
+            sum = 2 * sum + (secret >> i & 1);
+            sum = sum > 15 ? sum - 16 ^ 3 : sum;
+        }
+        return sum;
     }
 
     private static void leakByOrder() {

@@ -280,11 +280,14 @@ final class EdgesOfTerms {
                 Edge.due(turns + " of " + n + " turned from 0", 1 - bit, afterTurns("repeat " + n + ";", n, 0, turns));
             }
         }
-        for (int place = 0; place < 7; place++) {
-            SlipSecret x = Check.told(Texts.eight(7, "hamming;"));
-            x.enrol(9);
-            x.turn(place);
-            Edge.due("hamming, place " + (place + 1) + " turned", 9, x.recover(20, 0, 0));
+        for (int secret = 0; secret < 16; secret++) {
+            for (int place = 0; place < 7; place++) {
+                SlipSecret x = Check.told(Texts.eight(7, "hamming;"));
+                x.enrol(secret);
+                Edge.due("hamming " + secret, secret, x.recover(20, 0, 0));
+                x.turn(place);
+                Edge.due("hamming " + secret + ", place " + (place + 1) + " turned", secret, x.recover(20, 0, 0));
+            }
         }
         Edge.due("hamming, no place", 9, afterTurns("hamming;", 7, 9, 0));
         // Places 1 and 2 together tell place 3, which is d1.

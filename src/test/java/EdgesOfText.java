@@ -168,6 +168,11 @@ final class EdgesOfText {
         SlipSecret y = Edge.good("   ring   1   -2   3   ;   ring0 0 0;  pair  0  1  ;  guard  5  ;  all  ;   ", 1);
         Edge.due("drift", -2, y.ring(0, 1));
         Edge.due("guard", 5, y.told(6));
+        // A number is digits, so blanks may stand ahead of it behind "-", too.
+        SlipSecret apart = Edge.good("ring 1 -  2 3;heats - 9 - 8;", 0);
+        Edge.row("a blank behind -", new long[] {-9, -8}, i -> apart.told(7 + i));
+        Edge.fault("heats 0  -  41;", 2, 9);
+        Edge.fault("heats -  x;", 1, 9);
         SlipSecret zeros = Edge.good("guard" + "0".repeat(300) + "7;", 0);
         Edge.due("zeros ahead", 7, zeros.told(6));
         Edge.fault("rin 1 2 3;", 1, 0);
@@ -183,6 +188,18 @@ final class EdgesOfText {
         Edge.fault("guard 9x;", 1, 7);
         Edge.fault("all5;", 1, 3);
         Edge.fault("5all;", 1, 0);
+        for (String word : new String[] {"ring", "pair", "guard", "heats", "all", "repeat", "hamming"}) {
+            for (int i = 0; i < word.length(); i++) {
+                String head = word.substring(0, i);
+                String tail = word.substring(i + 1);
+                Edge.fault(head + "a".repeat(word.charAt(i) == 'a' ? 2 : 1) + tail + " 1 1 1;", 1, 0);
+                Edge.fault(head + "z" + tail + ";", 1, 0);
+                Edge.fault(head + tail + ";", 1, 0);
+            }
+            Edge.fault(word + "a;", 1, 0);
+            Edge.fault(word + "z;", 1, 0);
+            Edge.fault("a" + word + ";", 1, 0);
+        }
         // Signs next to blank, "0", "9", "a" and "z".
         for (char sign : new char[] {9, 10, 13, 31, 33, 160}) {
             Edge.fault(sign + "all;", 1, 0);
@@ -357,6 +374,16 @@ final class EdgesOfText {
         y.set(0, 1);
         Edge.due("what comes behind can", 0, y.undo());
         Edge.due("and no more", -1, y.undo());
+        long[] first = {0, 20, 20, 0, 3};
+        for (String end : new String[] {"", "x", "guard 1000;"}) {
+            SlipSecret z = new SlipSecret();
+            Check.tell(z, TWO_RINGS + "pair 0 1;guard 9;heats -40 125;all;hamming;" + end);
+            z.text(0);
+            Edge.row("settings as at first behind '" + end + "'", first, i -> z.told(6 + i));
+            Edge.due("no rings behind '" + end + "'", 0, z.told(0));
+            Edge.due("no pairs behind '" + end + "'", 0, z.told(1));
+            Edge.due("the same pair again", 1, Check.tell(z, TWO_RINGS + "pair 0 1;"));
+        }
         SlipSecret counts = new SlipSecret();
         Check.outcome(() -> counts.hear(0));
         counts.text(0);

@@ -367,11 +367,11 @@ public final class PromiseTest {
         Check.refused("9: 0", "argument", () -> x.train(0));
         Check.refused("9: 51", "argument", () -> x.train(51));
         SlipSecret again = told("ring 1 0 0;ring 2 0 0;ring 3 0 0;pair 0 1;pair 1 2;pair 0 2;");
-        again.hear(1);
+        again.hear(2);
         again.hear(0);
-        again.hear(1);
-        // In its old place: 2 ahead of 1: wrong: 0 -1 1; 1 ahead of 0: wrong: -1 0 1.
-        Check.due("9: in its old place", 2, again.train(1));
+        again.hear(2);
+        // In its old place: 2 ahead of 0: wrong: -1 0 1; 1 ahead of 0 is right then.
+        Check.due("9: in its old place", 1, again.train(1));
         Check.due("9: its weights", 0, again.ring(1, 3));
         again.wear(0, 0, 9);
         Check.due("9: bits as they were heard", 0, again.train(1));

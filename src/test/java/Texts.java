@@ -24,6 +24,23 @@ final class Texts {
         return text.append(settings).toString();
     }
 
+    /** Whether bits of some pairs of the eight rings, those in a set, fit an order of these. */
+    static boolean hasOrder(int bits, int pairs) {
+        int gone = 0;
+        for (int round = 0; round < 8; round++) {
+            int beaten = 0;
+            for (int a = 0, p = 0; a < 8; a++) {
+                for (int b = a + 1; b < 8; b++, p++) {
+                    int front = (bits >> p & 1) == 1 ? a : b;
+                    boolean counts = (pairs >> p & 1) == 1 && (gone >> front & 1) == 0;
+                    beaten |= counts ? 1 << (a + b - front) : 0;
+                }
+            }
+            gone |= ~beaten & 255;
+        }
+        return gone == 255;
+    }
+
     static SlipSecret none() {
         return new SlipSecret();
     }
