@@ -4,6 +4,7 @@ import java.io.File;
 import java.io.IOException;
 import java.lang.management.ManagementFactory;
 import java.lang.reflect.Constructor;
+import java.lang.reflect.Executable;
 import java.lang.reflect.Field;
 import java.lang.reflect.InvocationTargetException;
 import java.lang.reflect.Method;
@@ -18,15 +19,6 @@ import java.util.TreeSet;
 
 /** The rules of LANGUAGE.md that can be seen from outside: face, library, exceptions, room. */
 public final class LanguageTest {
-    private static final List<String> FACE = List.of(
-            "int feed(int,int,int,int,int)", "int text(int)", "int fault()", "int set(int,int)",
-            "int wear(int,int,int)", "int enrol(int)", "int hear(int)", "int train(int)", "int turn(int)",
-            "int undo()", "int told(int)", "int ring(int,int)", "int speed(int,int)", "int rank(int,int)",
-            "int pair(int,int)", "int bit(int,int)", "int flips(int,int)", "int odds(int,int,boolean)",
-            "int block(int,int)", "int recover(int,int,int)", "int fails(int,int,int,int)",
-            "int safe(int,int)", "int range(int)", "int guardFor(int)", "long ways(int)", "int leak(int)",
-            "int success(int)", "int curve(int,int)", "int nextPair()", "int needs()", "long print()",
-            "int status(int)");
     private static final Set<String> LIBRARY = Set.of(
             "java/lang/Object.<init>", "java/lang/Math.min", "java/lang/Math.max", "java/lang/Integer.bitCount",
             "java/lang/System.arraycopy", "java/lang/String.length", "java/lang/String.charAt",
@@ -47,36 +39,60 @@ public final class LanguageTest {
         Check.end();
     }
 
-    private static String signature(Method m) {
-        StringBuilder text = new StringBuilder(m.getReturnType() + " " + m.getName() + "(");
-        for (Class<?> p : m.getParameterTypes()) {
-            text.append(text.charAt(text.length() - 1) == '(' ? "" : ",").append(p);
-        }
-        return text.append(')').toString();
-    }
+    // ---- the face ----
 
-    private static void face() {
+    /** Each line of the document's face against what the compiled class has. */
+    private static void face() throws IOException {
         Set<String> seen = new TreeSet<>();
         for (Method m : SlipSecret.class.getDeclaredMethods()) {
             if (!Modifier.isPrivate(m.getModifiers()) && !m.isSynthetic()) {
-                seen.add((Modifier.isPublic(m.getModifiers()) ? "" : "not public ") + signature(m));
+                seen.add(lineOf(m, m.getReturnType() + " " + m.getName()));
             }
         }
-        Check.same("methods of the face", new TreeSet<>(FACE).toString(), seen.toString());
-        Constructor<?>[] constructors = SlipSecret.class.getDeclaredConstructors();
-        Check.due("constructors", 1, constructors.length);
-        Check.due("parameters of the constructor", 0, constructors[0].getParameterCount());
-        for (Field f : SlipSecret.class.getDeclaredFields()) {
-            boolean isOpen = !Modifier.isPrivate(f.getModifiers());
-            Check.due("open field " + f.getName(), f.getName().equals("NONE") ? 1 : 0, isOpen ? 1 : 0);
+        for (Constructor<?> c : SlipSecret.class.getDeclaredConstructors()) {
+            seen.add(lineOf(c, c.getName()));
         }
-        Check.due("the class is final", 1, Modifier.isFinal(SlipSecret.class.getModifiers()) ? 1 : 0);
+        for (Field f : SlipSecret.class.getDeclaredFields()) {
+            if (!Modifier.isPrivate(f.getModifiers())) {
+                seen.add(Modifier.toString(f.getModifiers()) + " " + f.getType() + " " + f.getName() + " = " + SlipSecret.NONE);
+            }
+        }
+        Check.same("the face", String.join("\n", documentsFace()), String.join("\n", seen));
+        Check.same("the class", "public final", Modifier.toString(SlipSecret.class.getModifiers()));
+    }
+
+    /** As the document writes it, but that parameters have no names. */
+    private static String lineOf(Executable e, String name) {
+        String line = Modifier.toString(e.getModifiers()) + " " + name + "(" + namesOf(e.getParameterTypes()) + ")";
+        return e.getExceptionTypes().length == 0 ? line : line + " throws " + namesOf(e.getExceptionTypes());
+    }
+
+    private static String namesOf(Class<?>[] types) {
+        List<String> names = new ArrayList<>();
+        for (Class<?> type : types) {
+            names.add(type.getSimpleName());
+        }
+        return String.join(", ", names);
+    }
+
+    private static Set<String> documentsFace() throws IOException {
+        String document = Files.readString(Path.of(System.getProperty("project", "."), "..", "shared", "DOC.md"));
+        int from = document.indexOf("public final class SlipSecret {");
+        Set<String> lines = new TreeSet<>();
+        for (String line : document.substring(from, document.indexOf("```", from)).split("\n")) {
+            if (line.startsWith("    public ")) {
+                lines.add(line.trim().replace(";", "").replaceAll("\\b(int|boolean) \\w+(?=[,)])", "$1"));
+            }
+        }
+        return lines;
     }
 
     private static void names() {
         Set<String> open = new TreeSet<>();
-        for (String line : FACE) {
-            open.add(line.substring(line.indexOf(' ') + 1, line.indexOf('(')));
+        for (Method m : SlipSecret.class.getDeclaredMethods()) {
+            if (Modifier.isPublic(m.getModifiers())) {
+                open.add(m.getName());
+            }
         }
         List<Class<?>> classes = new ArrayList<>(List.of(SlipSecret.class.getDeclaredClasses()));
         Check.due("twelve classes at most", 1, classes.size() < 12 ? 1 : 0);
