@@ -3,6 +3,7 @@ import java.io.DataInputStream;
 import java.io.File;
 import java.io.IOException;
 import java.lang.management.ManagementFactory;
+import java.lang.reflect.Array;
 import java.lang.reflect.Constructor;
 import java.lang.reflect.Executable;
 import java.lang.reflect.Field;
@@ -12,6 +13,8 @@ import java.lang.reflect.Modifier;
 import java.nio.file.Files;
 import java.nio.file.Path;
 import java.util.ArrayList;
+import java.util.Collections;
+import java.util.IdentityHashMap;
 import java.util.List;
 import java.util.Random;
 import java.util.Set;
@@ -36,6 +39,7 @@ public final class LanguageTest {
         source();
         machineNeverThrows();
         room();
+        sizeOfAnObject();
         Check.end();
     }
 
@@ -273,5 +277,34 @@ public final class LanguageTest {
         }
         long made = bean.getCurrentThreadAllocatedBytes() - before;
         Check.due("bytes made by 440 dear calls: " + made, 1, made < 20000 ? 1 : 0);
+    }
+
+    /** A thousand objects find place in the room of 600,000 objects and 7,300,000 elements. */
+    private static void sizeOfAnObject() throws Exception {
+        Set<Object> seen = Collections.newSetFromMap(new IdentityHashMap<>());
+        long elements = elementsIn(new SlipSecret(), seen);
+        Check.due("objects of a new one: " + seen.size(), 1, seen.size() <= 600 ? 1 : 0);
+        Check.due("elements of a new one: " + elements, 1, elements <= 7300 ? 1 : 0);
+    }
+
+    private static long elementsIn(Object one, Set<Object> seen) throws Exception {
+        if (one == null || !seen.add(one)) {
+            return 0;
+        }
+        long elements = 0;
+        if (one.getClass().isArray()) {
+            elements += Array.getLength(one);
+            for (int i = 0; one instanceof Object[] row && i < row.length; i++) {
+                elements += elementsIn(row[i], seen);
+            }
+            return elements;
+        }
+        for (Field f : one.getClass().getDeclaredFields()) {
+            if (!Modifier.isStatic(f.getModifiers())) {
+                f.setAccessible(true);
+                elements += f.getType().isPrimitive() ? 1 : 1 + elementsIn(f.get(one), seen);
+            }
+        }
+        return elements;
     }
 }
